@@ -1,0 +1,214 @@
+import java.util.Random;
+
+/** Runs of 512 calls, right and wrong ones, answered by the program and by the model alike. */
+public final class RandomRunsTest {
+    private static final int RUNS = 3000;
+    private static final int CALLS = 512;
+    private static final int[] EDGES = {Integer.MIN_VALUE, -100, -99, -10, -9, -2, -1, 0, 1, 2, 3, 4, 8, 9, 10, 24, 40, 99, 100, Integer.MAX_VALUE};
+
+    private final Random random;
+    private final Check check;
+    private final int run;
+    private final Numeraire x = new Numeraire();
+    private final Model m = new Model();
+    private final int wrongness;
+    private final boolean isCrowded;
+    private int made = 0;
+
+    private RandomRunsTest(Check check, int run) {
+        this.check = check;
+        this.run = run;
+        random = new Random(run);
+        wrongness = random.nextInt(3) == 0 ? 20 : 3;
+        isCrowded = random.nextInt(3) == 0;
+    }
+
+    public static void main(String[] args) {
+        Check check = new Check("RandomRunsTest");
+        for (int run = 0; run < RUNS && check.isAllRight(); run++) {
+            new RandomRunsTest(check, run).go();
+        }
+        check.end();
+    }
+
+    private void go() {
+        for (int call = 0; call < CALLS && check.isAllRight(); call++) {
+            int kind = random.nextInt(100);
+            if (made < 24 && kind < (call < 60 ? 70 : 10)) {
+                build();
+            } else if (kind < 25) {
+                acquire();
+            } else if (kind < 45) {
+                act();
+            } else if (kind < 48) {
+                goOn();
+            } else if (kind < 52) {
+                setUnit();
+            } else {
+                look();
+            }
+            same("items()", Check.told(m::items), x::items);
+            same("moves()", Check.told(m::moves), x::moves);
+        }
+        lookAtAll();
+    }
+
+    private void same(String what, String want, Check.Call call) {
+        check.due("run " + run + ": " + what, want, call);
+    }
+
+    private boolean isWild() {
+        return random.nextInt(100) < wrongness;
+    }
+
+    private int number(int least, int most) {
+        return isWild() ? EDGES[random.nextInt(EDGES.length)] : least + random.nextInt(Math.max(1, most - least + 1));
+    }
+
+    private int contract() {
+        if (isCrowded && made > 3 && random.nextInt(2) == 0) {
+            return number(made - 3, made - 1);
+        }
+        return number(0, made - 1);
+    }
+
+    private int item() {
+        return number(0, x.items() - 1);
+    }
+
+    private char kind(String kinds) {
+        return isWild() ? "ozgbesliwua\0"
+            .charAt(random.nextInt(12)) : kinds.charAt(random.nextInt(kinds.length()));
+    }
+
+    private void build() {
+        int first = contract();
+        int second = contract();
+        switch (random.nextInt(isCrowded ? 9 : 7)) {
+            case 0 -> {
+                int unit = number(-1, 2);
+                same("one(" + unit + ")", Check.told(() -> m.one(unit)), () -> x.one(unit));
+            }
+            case 1 -> {
+                char kind = kind("gl");
+                same("turned(" + kind + ", " + first + ")", Check.told(() -> m.turned(kind, first)), () -> x.turned(kind, first));
+            }
+            case 2 -> {
+                int number = number(0, 9);
+                same("scaled(" + first + ", " + number + ")", Check.told(() -> m.scaled(first, number)), () -> x.scaled(first, number));
+            }
+            case 3 -> {
+                int number = number(0, 8);
+                same("either(" + number + ", " + first + ", " + second + ")", Check.told(() -> m.either(number, first, second)), () -> x.either(number, first, second));
+            }
+            case 4, 5 -> {
+                int day = number(0, 8);
+                char kind = kind("wuawa");
+                same("timed(" + kind + ", " + first + ", " + day + ")", Check.told(() -> m.timed(kind, first, day)), () -> x.timed(kind, first, day));
+            }
+            default -> {
+                char kind = kind(isCrowded ? "bbbe" : "bee");
+                same("both(" + kind + ", " + first + ", " + second + ")", Check.told(() -> m.both(kind, first, second)), () -> x.both(kind, first, second));
+            }
+        }
+        countContracts();
+    }
+
+    private void countContracts() {
+        while (made < 24 && !Check.told(() -> x.kindOf(made)).startsWith("throws")) {
+            made++;
+        }
+    }
+
+    private void acquire() {
+        int contract = contract();
+        int holder = number(0, 3);
+        int other = number(0, 3);
+        same("acquire(" + contract + ", " + holder + ", " + other + ")", Check.told(() -> m.acquire(contract, holder, other)), () -> x.acquire(contract, holder, other));
+    }
+
+    private void act() {
+        int item = item();
+        switch (random.nextInt(7)) {
+            case 0, 1 -> {
+                boolean isFirst = random.nextBoolean();
+                same("choose(" + item + ", " + isFirst + ")", Check.told(() -> m.choose(item, isFirst)), () -> x.choose(item, isFirst));
+            }
+            case 2, 3 -> same("use(" + item + ")", Check.told(() -> m.use(item)), () -> x.use(item));
+            case 4, 5 -> {
+                int party = number(0, 3);
+                same("assign(" + item + ", " + party + ")", Check.told(() -> m.assign(item, party)), () -> x.assign(item, party));
+            }
+            default -> {
+                if (random.nextInt(isCrowded ? 6 : 2) == 0) {
+                    int party = number(0, 3);
+                    same("close(" + party + ")", Check.told(() -> m.close(party)), () -> x.close(party));
+                }
+            }
+        }
+    }
+
+    private void goOn() {
+        boolean isUp = random.nextInt(3) != 0;
+        same("next(" + isUp + ")", Check.told(() -> m.next(isUp)), () -> x.next(isUp));
+        lookAtAll();
+    }
+
+    private void setUnit() {
+        int unit = number(1, 2);
+        int base = number(-99, 99);
+        int slope = number(-9, 9);
+        same("setUnit(" + unit + ", " + base + ", " + slope + ")", Check.told(() -> m.setUnit(unit, base, slope)), () -> x.setUnit(unit, base, slope));
+    }
+
+    private void look() {
+        int contract = contract();
+        int item = item();
+        int day = number(0, 8);
+        int level = number(0, day >= 0 && day <= 8 ? day : 8);
+        int party = number(0, 3);
+        int unit = number(0, 2);
+        switch (random.nextInt(9)) {
+            case 0 -> same("worth(" + unit + ", " + day + ", " + level + ")", Check.told(() -> m.worth(unit, day, level)), () -> x.worth(unit, day, level));
+            case 1 -> {
+                same("kindOf(" + contract + ")", Check.told(() -> m.kindOf(contract)), () -> x.kindOf(contract));
+                same("depthOf(" + contract + ")", Check.told(() -> m.depthOf(contract)), () -> x.depthOf(contract));
+            }
+            case 2 -> same("value(" + contract + ", " + day + ", " + level + ")", Check.told(() -> m.value(contract, day, level)), () -> x.value(contract, day, level));
+            case 3 -> same("valueAnew(" + contract + ", " + day + ", " + level + ")", Check.told(() -> m.value(contract, day, level)), () -> x.valueAnew(contract, day, level));
+            case 4 -> same("price(" + contract + ")", Check.told(() -> m.price(contract) + 0.0), () -> x.price(contract));
+            case 5 -> lookAtItem(item);
+            case 6 -> same("amount(" + party + ", " + unit + ")", Check.told(() -> m.amount(party, unit)), () -> x.amount(party, unit));
+            case 7 -> same("wealth(" + party + ")", Check.told(() -> m.wealth(party)), () -> x.wealth(party));
+            default -> same("openShare()", Check.told(m::openShare), x::openShare);
+        }
+    }
+
+    private void lookAtItem(int item) {
+        same("contractOf(" + item + ")", Check.told(() -> m.contractOf(item)), () -> x.contractOf(item));
+        same("holderOf(" + item + ")", Check.told(() -> m.holderOf(item)), () -> x.holderOf(item));
+        same("otherOf(" + item + ")", Check.told(() -> m.otherOf(item)), () -> x.otherOf(item));
+        same("factorOf(" + item + ")", Check.told(() -> m.factorOf(item)), () -> x.factorOf(item));
+    }
+
+    private void lookAtAll() {
+        same("now()", Check.told(m::now), x::now);
+        same("isSound()", "true", x::isSound);
+        same("openShare()", Check.told(m::openShare), x::openShare);
+        for (int i = -1; i <= x.items(); i++) {
+            lookAtItem(i);
+        }
+        for (int i = 0; i < 4; i++) {
+            int party = i;
+            same("wealth(" + party + ")", Check.told(() -> m.wealth(party)), () -> x.wealth(party));
+            for (int u = 0; u < 3; u++) {
+                int unit = u;
+                same("amount(" + party + ", " + unit + ")", Check.told(() -> m.amount(party, unit)), () -> x.amount(party, unit));
+            }
+        }
+        for (int i = 0; i <= made; i++) {
+            int contract = i;
+            same("price(" + contract + ")", Check.told(() -> m.price(contract) + 0.0), () -> x.price(contract));
+        }
+    }
+}
