@@ -6,7 +6,8 @@ public final class Numeraire {
     private static final int MOST_CONTRACTS = 24;
     private static final int DEEPEST = 6;
     private static final int MOST_ITEMS = 40;
-    // Within a call one item can become 8: three 'b' one in the other, from the depth 5 of its part on, above items of the depth 2.
+    // Within a call one item can become 8: its part has the depth 5 at most, so three 'b' one in the other stand above
+    // items of the depth 2.
     private static final int MOST_ITEMS_WITHIN = MOST_ITEMS * 8;
     // Fewer than 64 items can come by one, as its parts form a tree of the depth 6.
     private static final int MOST_TURNS = MOST_ITEMS * 64;
@@ -480,7 +481,7 @@ public final class Numeraire {
             }
         }
 
-        // The row of a way is written over one of the next day that was read before: the way's own or a lower one.
+        // The rows of a day are written over those of the next one; what is overwritten has been read by then.
         private void endWay(int last, int day, int level, int way) {
             int start = way * MOST_CONTRACTS;
             int next = 2 * start;
@@ -493,7 +494,10 @@ public final class Numeraire {
             }
         }
 
-        /** The value at a place where the values of its parts stand in a row, from a start on, and its own ones of the two next places add up to later. */
+        /**
+         * The value at a place where the values of all parts stand in a row, from a start on; later is the sum of its
+         * own values at the two next places. So a sum is a mean: each day is told times half as much as the one before.
+         */
         private long valueHere(int contract, int day, int level, long[] row, int start, long later) {
             long first = partIn(row, start, contracts.firstAt(contract));
             long second = partIn(row, start, contracts.secondAt(contract));
@@ -632,7 +636,7 @@ public final class Numeraire {
         }
     }
 
-    /** What the parties acquire, use and close. A call that answers false has changed nothing: too many items would stand. */
+    /** What the parties acquire, use and close. What answers false has changed nothing, as too many items would stand. */
     private static final class Ledger {
         private final Values values = new Values();
         private final Contracts contracts = values.contracts;
