@@ -32,15 +32,18 @@ public final class RandomRunsTest {
     }
 
     private void go() {
+        if (isCrowded) {
+            startCrowd();
+        }
         for (int call = 0; call < CALLS && check.isAllRight(); call++) {
             int kind = random.nextInt(100);
-            if (made < 24 && kind < (call < 60 ? 70 : 10)) {
+            if (kind < (made == 24 ? 1 : call < 60 && !isCrowded ? 70 : 10)) {
                 build();
             } else if (kind < 25) {
                 acquire();
             } else if (kind < 45) {
                 act();
-            } else if (kind < 48) {
+            } else if (kind < (isCrowded && call % 64 != 63 ? 46 : 48)) {
                 goOn();
             } else if (kind < 52) {
                 setUnit();
@@ -51,6 +54,26 @@ public final class RandomRunsTest {
             same("moves()", Check.told(m::moves), x::moves);
         }
         lookAtAll();
+    }
+
+    /** Contracts by which many items come at once, today or on a later day. */
+    private void startCrowd() {
+        int day = 1 + random.nextInt(8);
+        char[] kinds = {random.nextBoolean() ? 'a' : 'w', random.nextBoolean() ? 'a' : 'w'};
+        m.one(1);
+        x.one(1);
+        for (int i = 0; i < 4; i++) {
+            int each = i;
+            m.both(i == 0 ? 'e' : 'b', each, each);
+            x.both(i == 0 ? 'e' : 'b', each, each);
+        }
+        for (char kind : kinds) {
+            m.timed(kind, 4, day);
+            x.timed(kind, 4, day);
+        }
+        m.both('e', 4, 3);
+        x.both('e', 4, 3);
+        countContracts();
     }
 
     private void same(String what, String want, Check.Call call) {
@@ -123,7 +146,7 @@ public final class RandomRunsTest {
     private void acquire() {
         int contract = contract();
         int holder = number(0, 3);
-        int other = number(0, 3);
+        int other = holder >= 0 && holder <= 3 && !isWild() ? (holder + 1 + random.nextInt(3)) % 4 : number(0, 3);
         same("acquire(" + contract + ", " + holder + ", " + other + ")", Check.told(() -> m.acquire(contract, holder, other)), () -> x.acquire(contract, holder, other));
     }
 
