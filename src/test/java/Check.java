@@ -36,11 +36,11 @@ final class Check {
         }
     }
 
-    /** A throwing call must leave all that can be asked as it was. */
+    /** A throwing call leaves the figures as they were; RefusalTest looks at all the rest. */
     void refused(String what, String exception, Numeraire x, Call call) {
-        String before = Look.at(x);
+        String before = Told.figures(x);
         due(what, "throws." + exception, call);
-        same("the state behind " + what, before, Look.at(x));
+        same("the figures behind " + what, before, Told.figures(x));
     }
 
     boolean isAllRight() {

@@ -27,7 +27,19 @@ public final class LanguageTest {
         String uses = code.replaceAll("new \\w+\\[[^\\]]*\\]", "");
         check.due("indices, those of read and write alone", 4L, () -> Pattern.compile("\\[[^\\]]+\\]").matcher(uses).results().count());
         checkMethods(check, code);
+        checkObjects(check, code);
         check.end();
+    }
+
+    /** Objects are made with the ledger alone, so that no run of calls makes more of them; what is thrown is not kept. */
+    private static void checkObjects(Check check, String code) {
+        String left = code.replaceAll("throw new \\w+\\(\"\"\\);", "").replaceAll("(?m)^ +private final [\\w\\[\\]]+ \\w+ = new \\w+(\\[.*\\]|\\(\\));$", "");
+        Matcher constructor = Pattern.compile("(?ms)^    public Numeraire\\(\\) \\{$(.*?)^    \\}$").matcher(left);
+        check.due("the constructor is found", true, constructor::find);
+        String calls = left.substring(0, constructor.start()) + left.substring(constructor.end());
+        check.due("objects that are made by calls", 0L, () -> Pattern.compile("\\bnew\\b|\\bclone\\b").matcher(calls).results().count());
+        check.due("static fields that are no constants", 0L, () -> Pattern.compile("(?m)^ +(private )?static (?!final (int|long) [A-Z_]+ = )[^(\n]*;$")
+            .matcher(code).results().count());
     }
 
     private static void checkMethods(Check check, String code) {

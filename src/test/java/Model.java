@@ -96,6 +96,10 @@ final class Model {
         return make(kind, deal(contract), null, number);
     }
 
+    int contracts() {
+        return deals.size();
+    }
+
     char kindOf(int contract) {
         return deal(contract).kind;
     }

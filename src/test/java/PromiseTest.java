@@ -358,7 +358,19 @@ public final class PromiseTest {
     }
 
     private static void promise13() {
-        Numeraire x = new Numeraire();
+        for (int contract = 0; contract <= 10; contract++) {
+            Numeraire x = new Numeraire();
+            int last = makeManyKinds(x);
+            check.due("13 the last contract", 10, () -> last);
+            for (int day = 0; day <= 8; day++) {
+                for (int level = 0; level <= day; level++) {
+                    due12(x, "either way " + contract + " " + day + " " + level, contract, day, level, x.value(contract, day, level));
+                }
+            }
+        }
+    }
+
+    private static int makeManyKinds(Numeraire x) {
         x.setUnit(1, 3, -4);
         x.setUnit(2, -7, 9);
         int one = x.one(1);
@@ -368,14 +380,7 @@ public final class PromiseTest {
         int owed = x.turned('g', x.timed('a', x.turned('l', two), 5));
         int sum = x.both('b', may, owed);
         x.timed('w', sum, 3);
-        int last = x.both('e', sum, x.either(2, owed, may));
-        for (int contract = 0; contract <= last; contract++) {
-            for (int day = 0; day <= 8; day++) {
-                for (int level = 0; level <= day; level++) {
-                    due12(x, "either way " + contract + " " + day + " " + level, contract, day, level, x.value(contract, day, level));
-                }
-            }
-        }
+        return x.both('e', sum, x.either(2, owed, may));
     }
 
     private static void promise14() {

@@ -1,9 +1,11 @@
 import java.util.Random;
 
-/** Runs of 512 calls, right and wrong ones, answered by the program and by the model alike. */
+/** Runs of 512 calls at most, right and wrong ones, answered by the program and by the model alike. */
 public final class RandomRunsTest {
-    private static final int RUNS = 3000;
-    private static final int CALLS = 512;
+    private static final int RUNS = 9000;
+    private static final int MOST_CALLS = 512;
+    /** How many calls a look at all takes, with 40 items and 24 contracts, and any call before it. */
+    private static final int LOOK = 230;
     private static final int[] EDGES = {Integer.MIN_VALUE, -100, -99, -10, -9, -2, -1, 0, 1, 2, 3, 4, 8, 9, 10, 24, 40, 99, 100, Integer.MAX_VALUE};
 
     private final Random random;
@@ -14,6 +16,7 @@ public final class RandomRunsTest {
     private final int wrongness;
     private final boolean isCrowded;
     private int made = 0;
+    private int asked = 0;
 
     private RandomRunsTest(Check check, int run) {
         this.check = check;
@@ -35,48 +38,50 @@ public final class RandomRunsTest {
         if (isCrowded) {
             startCrowd();
         }
-        for (int call = 0; call < CALLS && check.isAllRight(); call++) {
+        for (int turn = 0; turn < MOST_CALLS && asked < MOST_CALLS - LOOK && check.isAllRight(); turn++) {
             int kind = random.nextInt(100);
-            if (kind < (made == 24 ? 1 : call < 60 && !isCrowded ? 70 : 10)) {
+            if (kind < (made == 24 ? 1 : turn < 40 && !isCrowded ? 80 : 10)) {
                 build();
-            } else if (kind < 25) {
+            } else if (kind < 30) {
                 acquire();
-            } else if (kind < 45) {
+                lookAtFigures();
+            } else if (kind < 60) {
                 act();
-            } else if (kind < (isCrowded && call % 64 != 63 ? 46 : 48)) {
+                lookAtFigures();
+            } else if (kind < (isCrowded && turn % 32 != 31 ? 62 : 68)) {
                 goOn();
-            } else if (kind < 52) {
+                lookAtFigures();
+            } else if (kind < 73) {
                 setUnit();
             } else {
                 look();
             }
-            same("items()", Check.told(m::items), x::items);
-            same("moves()", Check.told(m::moves), x::moves);
         }
         lookAtAll();
+        int calls = asked;
+        check.due("run " + run + " is not longer than is promised", true, () -> calls <= MOST_CALLS);
     }
 
     /** Contracts by which many items come at once, today or on a later day. */
     private void startCrowd() {
         int day = 1 + random.nextInt(8);
         char[] kinds = {random.nextBoolean() ? 'a' : 'w', random.nextBoolean() ? 'a' : 'w'};
-        m.one(1);
-        x.one(1);
+        same("one(1)", Check.told(() -> m.one(1)), () -> x.one(1));
         for (int i = 0; i < 4; i++) {
             int each = i;
-            m.both(i == 0 ? 'e' : 'b', each, each);
-            x.both(i == 0 ? 'e' : 'b', each, each);
+            char kind = i == 0 ? 'e' : 'b';
+            same("both(" + kind + ", " + each + ", " + each + ")", Check.told(() -> m.both(kind, each, each)), () -> x.both(kind, each, each));
         }
         for (char kind : kinds) {
-            m.timed(kind, 4, day);
-            x.timed(kind, 4, day);
+            same("timed(" + kind + ", 4, " + day + ")", Check.told(() -> m.timed(kind, 4, day)), () -> x.timed(kind, 4, day));
         }
-        m.both('e', 4, 3);
-        x.both('e', 4, 3);
-        countContracts();
+        same("both('e', 4, 3)", Check.told(() -> m.both('e', 4, 3)), () -> x.both('e', 4, 3));
+        made = m.contracts();
     }
 
+    /** One call of the program. */
     private void same(String what, String want, Check.Call call) {
+        asked++;
         check.due("run " + run + ": " + what, want, call);
     }
 
@@ -96,7 +101,7 @@ public final class RandomRunsTest {
     }
 
     private int item() {
-        return number(0, x.items() - 1);
+        return number(0, m.items() - 1);
     }
 
     private char kind(String kinds) {
@@ -134,13 +139,7 @@ public final class RandomRunsTest {
                 same("both(" + kind + ", " + first + ", " + second + ")", Check.told(() -> m.both(kind, first, second)), () -> x.both(kind, first, second));
             }
         }
-        countContracts();
-    }
-
-    private void countContracts() {
-        while (made < 24 && !Check.told(() -> x.kindOf(made)).startsWith("throws")) {
-            made++;
-        }
+        made = m.contracts();
     }
 
     private void acquire() {
@@ -152,29 +151,32 @@ public final class RandomRunsTest {
 
     private void act() {
         int item = item();
-        switch (random.nextInt(7)) {
-            case 0, 1 -> {
-                boolean isFirst = random.nextBoolean();
-                same("choose(" + item + ", " + isFirst + ")", Check.told(() -> m.choose(item, isFirst)), () -> x.choose(item, isFirst));
-            }
-            case 2, 3 -> same("use(" + item + ")", Check.told(() -> m.use(item)), () -> x.use(item));
-            case 4, 5 -> {
-                int party = number(0, 3);
-                same("assign(" + item + ", " + party + ")", Check.told(() -> m.assign(item, party)), () -> x.assign(item, party));
-            }
-            default -> {
-                if (random.nextInt(isCrowded ? 6 : 2) == 0) {
-                    int party = number(0, 3);
-                    same("close(" + party + ")", Check.told(() -> m.close(party)), () -> x.close(party));
-                }
-            }
+        char kind = isWild() || item < 0 || item >= m.items() ? 'w' : m.kindOf(m.contractOf(item));
+        int way = random.nextInt(8);
+        if (way == 0) {
+            close(random.nextInt(isCrowded ? 4 : 1));
+        } else if (way < 3) {
+            int party = number(0, 3);
+            same("assign(" + item + ", " + party + ")", Check.told(() -> m.assign(item, party)), () -> x.assign(item, party));
+        } else if (kind == 'e' || kind == 'w' && way < 5) {
+            boolean isFirst = random.nextBoolean();
+            same("choose(" + item + ", " + isFirst + ")", Check.told(() -> m.choose(item, isFirst)), () -> x.choose(item, isFirst));
+        } else {
+            same("use(" + item + ")", Check.told(() -> m.use(item)), () -> x.use(item));
+        }
+    }
+
+    /** Closes a party if it is its turn. */
+    private void close(int turn) {
+        if (turn == 0) {
+            int party = number(0, 3);
+            same("close(" + party + ")", Check.told(() -> m.close(party)), () -> x.close(party));
         }
     }
 
     private void goOn() {
         boolean isUp = random.nextInt(3) != 0;
         same("next(" + isUp + ")", Check.told(() -> m.next(isUp)), () -> x.next(isUp));
-        lookAtAll();
     }
 
     private void setUnit() {
@@ -214,11 +216,17 @@ public final class RandomRunsTest {
         same("factorOf(" + item + ")", Check.told(() -> m.factorOf(item)), () -> x.factorOf(item));
     }
 
+    private void lookAtFigures() {
+        same("items()", Check.told(m::items), x::items);
+        same("moves()", Check.told(m::moves), x::moves);
+    }
+
     private void lookAtAll() {
+        lookAtFigures();
         same("now()", Check.told(m::now), x::now);
         same("isSound()", "true", x::isSound);
         same("openShare()", Check.told(m::openShare), x::openShare);
-        for (int i = -1; i <= x.items(); i++) {
+        for (int i = -1; i <= m.items(); i++) {
             lookAtItem(i);
         }
         for (int i = 0; i < 4; i++) {

@@ -20,6 +20,7 @@ public final class SoundTest {
             }
         }
         worths();
+        amountsAlone();
         eachContract();
         check.end();
     }
@@ -77,6 +78,20 @@ public final class SoundTest {
         check.due("31 an item that nobody holds", false, x::isSound);
         holders[1] = before;
         check.due("31 an item that somebody holds", true, x::isSound);
+    }
+
+    /** What nobody holds is worth as much as an amount that nobody gave: what the parties are worth adds up to 0 all the same. */
+    private static void amountsAlone() throws ReflectiveOperationException {
+        for (int unit = 0; unit < 3; unit++) {
+            Numeraire x = new Numeraire();
+            x.acquire(x.timed('w', x.one(0), 8), 0, 1);
+            int[] holders = (int[]) inside(inside(inside(x, "state"), "items"), "holders");
+            long[] amounts = (long[]) inside(inside(x, "state"), "amounts");
+            holders[0] = 4;
+            amounts[3 * 2 + unit]++;
+            check.due("31 what the parties are worth in all", 0L, () -> x.wealth(0) + x.wealth(1) + x.wealth(2) + x.wealth(3));
+            check.due("31 one of " + unit + " that nobody gave", false, x::isSound);
+        }
     }
 
     /** Sound with any number of contracts, and unsound by the last one alone. */

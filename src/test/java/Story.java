@@ -18,6 +18,40 @@ final class Story {
     private Story() {
     }
 
+    /** A ledger with 6 contracts of the depths 1 to 5, and the three items e, a and w, on the day 3. */
+    static Numeraire some() {
+        Numeraire x = new Numeraire();
+        int unit = x.one(1);
+        int may = x.timed('a', unit, 8);
+        int choice = x.both('e', may, unit);
+        int later = x.timed('w', choice, 8);
+        x.turned('g', later);
+        x.scaled(later, 2);
+        Told.goTo(x, 3, 2);
+        x.acquire(choice, 0, 1);
+        x.acquire(may, 1, 2);
+        x.acquire(later, 2, 3);
+        return x;
+    }
+
+    /** What can be seen of such a ledger in some 60 calls. */
+    static String lookAtSome(Numeraire x) {
+        StringBuilder all = new StringBuilder();
+        for (int contract = 0; contract < 6; contract++) {
+            all.append(x.kindOf(contract)).append(x.depthOf(contract)).append(x.value(contract, 0, 0)).append(x.value(contract, 8, 7)).append(' ');
+        }
+        return all + Check.told(() -> x.kindOf(6)) + x.worth(1, 8, 8) + " " + x.worth(2, 8, 8) + " " + Told.amounts(x) + " " + Told.wealths(x) + " "
+            + Told.items(x) + " " + x.moves() + " " + x.now() + " " + x.openShare() + x.isSound();
+    }
+
+    /** A ledger with 40 items: an a of a unit each. */
+    static Numeraire forty() {
+        Numeraire x = new Numeraire();
+        x.timed('a', x.one(0), 8);
+        Told.crowd(x, 1, 40);
+        return x;
+    }
+
     /** 19 contracts, the items e, a, w, a, e, w on the day 1, and room for more of all. */
     static void open(Numeraire x) {
         makeContracts(x);

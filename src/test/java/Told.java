@@ -24,6 +24,11 @@ final class Told {
         return x.wealth(0) + " " + x.wealth(1) + " " + x.wealth(2) + " " + x.wealth(3);
     }
 
+    /** The day, the items, the moves and the wealth: what most calls that change anything change. */
+    static String figures(Numeraire x) {
+        return x.now() + " " + x.items() + " " + x.moves() + ", " + wealths(x);
+    }
+
     /** The contract, the holder, the other party and the factor of an item. */
     static String item(Numeraire x, int item) {
         return x.contractOf(item) + " " + x.holderOf(item) + " " + x.otherOf(item) + " " + x.factorOf(item);
