@@ -186,6 +186,10 @@ final class Answers {
                 x.next(true);
             }
         }
+        t.due("on the day 3 at the level 2", "1.0 2.0", () -> {
+            Numeraire y = Story.some();
+            return y.price(0) + " " + y.price(5);
+        });
     }
 
     private void acquiring() {
