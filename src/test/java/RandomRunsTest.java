@@ -151,26 +151,34 @@ public final class RandomRunsTest {
 
     private void act() {
         int item = item();
-        char kind = isWild() || item < 0 || item >= m.items() ? 'w' : m.kindOf(m.contractOf(item));
-        int way = random.nextInt(8);
-        if (way == 0) {
-            close(random.nextInt(isCrowded ? 4 : 1));
-        } else if (way < 3) {
+        switch (random.nextInt(8)) {
+            case 0 -> closeAtTimes();
+            case 1, 2 -> {
+                int party = number(0, 3);
+                same("assign(" + item + ", " + party + ")", Check.told(() -> m.assign(item, party)), () -> x.assign(item, party));
+            }
+            default -> chooseOrUse(item);
+        }
+    }
+
+    /** Where many items should stand, closing comes more seldom. */
+    private void closeAtTimes() {
+        if (!isCrowded || random.nextInt(4) == 0) {
             int party = number(0, 3);
-            same("assign(" + item + ", " + party + ")", Check.told(() -> m.assign(item, party)), () -> x.assign(item, party));
-        } else if (kind == 'e' || kind == 'w' && way < 5) {
+            same("close(" + party + ")", Check.told(() -> m.close(party)), () -> x.close(party));
+        }
+    }
+
+    /** Mostly what the item's kind allows. */
+    private void chooseOrUse(int item) {
+        boolean isThere = item >= 0 && item < m.items();
+        boolean isKnown = isThere && !isWild() && m.kindOf(m.contractOf(item)) != 'w';
+        boolean isChoice = isKnown ? m.kindOf(m.contractOf(item)) == 'e' : random.nextBoolean();
+        if (isChoice) {
             boolean isFirst = random.nextBoolean();
             same("choose(" + item + ", " + isFirst + ")", Check.told(() -> m.choose(item, isFirst)), () -> x.choose(item, isFirst));
         } else {
             same("use(" + item + ")", Check.told(() -> m.use(item)), () -> x.use(item));
-        }
-    }
-
-    /** Closes a party if it is its turn. */
-    private void close(int turn) {
-        if (turn == 0) {
-            int party = number(0, 3);
-            same("close(" + party + ")", Check.told(() -> m.close(party)), () -> x.close(party));
         }
     }
 
